@@ -1,7 +1,10 @@
+import java.util.Map;
+import java.util.Set;
 import java.util.function.Function;
 
 /** Counts and prints what the tests find; each check works on an object of its own, so that 512 calls suffice. */
 final class Check {
+    private static final Set<String> HELPERS = Set.of("Check", "Edges", "Picture");
     private static int passed = 0;
     private static int failed = 0;
 
@@ -15,6 +18,11 @@ final class Check {
             failed++;
             System.out.println(place() + what + " answered " + got + ", due is " + want);
         }
+    }
+
+    /** How many checks were made so far. */
+    static int made() {
+        return passed + failed;
     }
 
     /** Ends the test program, with exit code 1 if a check failed. */
@@ -78,31 +86,16 @@ final class Check {
         same("after " + texts + " and the call the state", before, picture(x));
     }
 
-    /** All that an object tells but for the reason; some 130 calls at most. */
+    /** All that an object tells but for the reason. */
     static String picture(ChalkWarrants x) {
-        StringBuilder signs = new StringBuilder(shownLine(x));
-        signs.append('|').append(x.faultPosition()).append(' ').append(x.account(10)).append(' ').append(x.account(11));
-        return yardPicture(x) + signs;
+        Map<String, String> all = Picture.of(x);
+        all.remove("reason");
+        return all.toString();
     }
 
     /** All of an object that can be undone. */
     static String yardPicture(ChalkWarrants x) {
-        StringBuilder all = new StringBuilder();
-        for (int what = 0; what < 10; what++) {
-            all.append(x.account(what)).append(' ');
-        }
-        for (int square = 0; square < 12; square++) {
-            all.append(x.squareOf(square, false)).append('/').append(x.squareOf(square, true)).append(' ');
-        }
-        for (int child = 0; child < x.account(0); child++) {
-            for (int what = 0; what < 7; what++) {
-                all.append(x.childOf(child, what)).append(' ');
-            }
-        }
-        for (int place = 0; place < x.account(4); place++) {
-            all.append(x.warrantAt(place)).append(' ');
-        }
-        return all.append(x.isEven()).append('|').toString();
+        return Picture.yard(x).toString();
     }
 
     static String reasons(ChalkWarrants x) {
@@ -140,7 +133,7 @@ final class Check {
 
     private static String place() {
         return StackWalker.getInstance().walk(frames -> frames
-                .filter(frame -> !frame.getClassName().startsWith("Check"))
+                .filter(frame -> !HELPERS.contains(frame.getClassName().replaceAll("\\$.*", "")))
                 .findFirst()
                 .map(frame -> frame.getClassName() + "." + frame.getMethodName() + ":" + frame.getLineNumber() + ": ")
                 .orElse(""));
