@@ -62,7 +62,7 @@ public final class FaceTest {
         Check.end("FaceTest");
     }
 
-    private static Set<String> methods() {
+    static Set<String> methods() {
         Set<String> found = new TreeSet<>();
         for (Method method : ChalkWarrants.class.getDeclaredMethods()) {
             if (!Modifier.isPrivate(method.getModifiers())) {
